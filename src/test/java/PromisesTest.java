@@ -431,6 +431,12 @@ public final class PromisesTest {
         }
         HandlerOptimizer full = withFullCode();
         due("isReached(47)", full.isReached(47), true);
+        HandlerOptimizer thrown = new HandlerOptimizer();
+        thrown.raise(0);
+        thrown.end();
+        thrown.end();
+        thrown.addEntry(0, 1, 0, 2);
+        dueReached(thrown, 1, 0, 1);
         HandlerOptimizer loop = new HandlerOptimizer();
         loop.jump(2);
         loop.end();
@@ -461,6 +467,13 @@ public final class PromisesTest {
         x.removeEntry(3);
         due("isUsed(3)", x.isUsed(3), true);
         due("now 3 is reached, and isUsed(4)", x.isUsed(4), true);
+        HandlerOptimizer y = new HandlerOptimizer();
+        y.step(1);
+        y.addEntry(0, 1, 0, 9);
+        due("isUsed(0)", y.isUsed(0), true);
+        y.removeEntry(0);
+        y.addEntry(1, 2, 0, 9);
+        due("isUsed(0) of another entry", y.isUsed(0), false);
     }
 
     private static void p20Leaving() {
@@ -498,6 +511,11 @@ public final class PromisesTest {
         x.removeEntry(0);
         x.addEntry(2, 5, 0, 4);
         dueShare(x, 7.0 / 9.0);
+        HandlerOptimizer y = new HandlerOptimizer();
+        y.addKind(0);
+        y.step(3);
+        y.addEntry(0, 1, 1, 9);
+        dueShare(y, 0.5);
     }
 
     private static void p22Parts() {
@@ -523,6 +541,13 @@ public final class PromisesTest {
         due("parts", x.parts(), 3);
         x.addEntry(6, 48, 0, 1);
         due("entries behind the code", x.parts(), 3);
+        HandlerOptimizer y = new HandlerOptimizer();
+        y.addKind(0);
+        y.step(0);
+        y.step(0);
+        y.addEntry(0, 2, 1, 5);
+        y.addEntry(1, 2, 0, 5);
+        due("kind 0 alone goes elsewhere", y.parts(), 2);
     }
 
     private static void p23Drop() {
@@ -711,7 +736,23 @@ public final class PromisesTest {
         due("a join alone", x.improve(), 1);
         dueEntry(x, 0, 0, 2, 0, 9);
         improvesByAllThree();
-        improvesByShrinkingWhatWasJoined();
+        improvesAroundAnotherTarget();
+        improvesInTwoRounds();
+    }
+
+    /** The joined entry takes what the last one took, but that can not be joined, for its kind. */
+    private static void improvesInTwoRounds() {
+        HandlerOptimizer x = new HandlerOptimizer();
+        x.addKind(0);
+        x.step(3);
+        x.step(2);
+        x.step(2);
+        x.addEntry(0, 1, 1, 8);
+        x.addEntry(2, 3, 1, 8);
+        x.addEntry(1, 2, 0, 8);
+        due("improve", x.improve(), 2);
+        due("entryCount", x.entryCount(), 1);
+        dueEntry(x, 0, 0, 3, 1, 8);
     }
 
     private static void improvesByAllThree() {
@@ -740,7 +781,7 @@ public final class PromisesTest {
         dueEntry(y, 0, 0, 3, 0, 8);
     }
 
-    private static void improvesByShrinkingWhatWasJoined() {
+    private static void improvesAroundAnotherTarget() {
         HandlerOptimizer x = new HandlerOptimizer();
         x.addKind(0);
         x.step(2);
@@ -984,6 +1025,35 @@ public final class PromisesTest {
                 2, 1, 7, 2, 3, 0, 48, 1, 47, 1, 0, 0);
     }
 
+    /** All kinds, instructions and entries that there can be: no row is read beyond its end. */
+    private static void fullEverywhere() {
+        HandlerOptimizer x = new HandlerOptimizer();
+        for (int k = 1; k < 8; k++) {
+            x.addKind(k - 1);
+        }
+        for (int i = 0; i < 48; i++) {
+            x.branch(255, 47);
+        }
+        for (int e = 0; e < 24; e++) {
+            x.addEntry(2 * e, 2 * e + 2, 7 - e % 8, e % 2);
+        }
+        due("taker(47, 7)", x.taker(47, 7), 23);
+        due("isReached(47)", x.isReached(47), true);
+        due("isUsed(23)", x.isUsed(23), true);
+        due("leaving", x.leaving(), 127);
+        dueShare(x, 216.0 / 384.0);
+        due("parts", x.parts(), 24);
+        due("common(7, 6)", x.common(7, 6), 6);
+        due("drop", x.drop(), 0);
+        due("shrink", x.shrink(), 0);
+        // The three of kind 7: the ones between take that kind, too, and stay ahead of the joined.
+        due("join", x.join(), 2);
+        dueEntry(x, 14, 0, 34, 7, 0);
+        due("improve", x.improve(), 0);
+        due("sweep", x.sweep(), 0);
+        dueRun(x, 9, 500, 0, 49, 1, -1);
+    }
+
     public static void main(String[] args) {
         p01NewObject();
         p02AddKind();
@@ -1018,6 +1088,7 @@ public final class PromisesTest {
         p31Escaped();
         p32Way();
         p33Digest();
+        fullEverywhere();
         System.out.println(wrong == 0 ? "all promises hold" : wrong + " answers are wrong");
         System.exit(wrong == 0 ? 0 : 1);
     }
