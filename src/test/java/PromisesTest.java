@@ -437,6 +437,15 @@ public final class PromisesTest {
         thrown.end();
         thrown.addEntry(0, 1, 0, 2);
         dueReached(thrown, 1, 0, 1);
+        HandlerOptimizer less = new HandlerOptimizer();
+        less.step(1);
+        less.end();
+        less.step(0);
+        less.end();
+        less.addEntry(0, 1, 0, 2);
+        dueReached(less, 1, 1, 1, 1);
+        less.removeEntry(0);
+        dueReached(less, 1, 1, 0, 0);
         HandlerOptimizer loop = new HandlerOptimizer();
         loop.jump(2);
         loop.end();
