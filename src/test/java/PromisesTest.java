@@ -445,6 +445,7 @@ public final class PromisesTest {
         less.addEntry(0, 1, 0, 2);
         dueReached(less, 1, 1, 1, 1);
         less.removeEntry(0);
+        due("isReached(3), no more", less.isReached(3), false);
         dueReached(less, 1, 1, 0, 0);
         HandlerOptimizer loop = new HandlerOptimizer();
         loop.jump(2);
