@@ -1,114 +1,6 @@
 /** For each promise of the document ordinary inputs, the edges that it names, and wrong inputs. */
-public final class PromisesTest {
-    private static final int MIN = Integer.MIN_VALUE;
-    private static final int MAX = Integer.MAX_VALUE;
-    private static final Class<? extends RuntimeException> INDEX = IndexOutOfBoundsException.class;
-    private static final Class<? extends RuntimeException> ARGUMENT =
-            IllegalArgumentException.class;
-    private static final Class<? extends RuntimeException> STATE = IllegalStateException.class;
-
-    private static int wrong = 0;
-
+public final class PromisesTest extends Due {
     private PromisesTest() {
-    }
-
-    private interface Call {
-        void make(HandlerOptimizer x);
-    }
-
-    private static void due(String call, long got, long want) {
-        if (got != want) {
-            wrong++;
-            System.out.println(call + " answered " + got + ", due is " + want);
-        }
-    }
-
-    private static void due(String call, boolean got, boolean want) {
-        due(call, got ? 1 : 0, want ? 1 : 0);
-    }
-
-    private static void dueShare(HandlerOptimizer x, double want) {
-        double got = x.share();
-        if (got != want) {
-            wrong++;
-            System.out.println("share answered " + got + ", due is " + want);
-        }
-    }
-
-    /** The call must throw just this, and leave all that digest and way tell as it was. */
-    private static void dueThrow(String name, HandlerOptimizer x,
-            Class<? extends RuntimeException> want, Call call) {
-        long digest = x.digest();
-        long way = x.way();
-        Class<?> got = null;
-        try {
-            call.make(x);
-        } catch (RuntimeException e) {
-            got = e.getClass();
-        }
-        if (got != want) {
-            wrong++;
-            System.out.println(name + " threw " + got + ", due is " + want);
-        }
-        due(name + ": digest behind it", x.digest(), digest);
-        due(name + ": way behind it", x.way(), way);
-    }
-
-    private static void dueInstruction(HandlerOptimizer x, int i, int form, int thrown,
-            int target) {
-        due("form of " + i, x.instruction(i, 0), form);
-        due("thrown of " + i, x.instruction(i, 1), thrown);
-        due("target of " + i, x.instruction(i, 2), target);
-    }
-
-    private static void dueEntry(HandlerOptimizer x, int e, int from, int to, int kind,
-            int target) {
-        due("begin of " + e, x.entry(e, 0), from);
-        due("end of " + e, x.entry(e, 1), to);
-        due("kind of " + e, x.entry(e, 2), kind);
-        due("target of " + e, x.entry(e, 3), target);
-    }
-
-    private static void dueRun(HandlerOptimizer x, long choices, int most, int... want) {
-        String name = "run(" + choices + ", " + most + ")";
-        due(name, x.run(choices, most), want[0]);
-        due(name + " executed", x.executed(), want[1]);
-        due(name + " taken", x.taken(), want[2]);
-        due(name + " escaped", x.escaped(), want[3]);
-    }
-
-    private static void dueWay(HandlerOptimizer x, int... numbers) {
-        long w = 7;
-        for (int number : numbers) {
-            w = 31 * w + number;
-        }
-        due("way", x.way(), w);
-    }
-
-    private static void dueDigest(HandlerOptimizer x, int... numbers) {
-        long d = 137;
-        for (int number : numbers) {
-            d = d * 31 + number;
-        }
-        due("digest", x.digest(), d);
-    }
-
-    /** Kinds 0; 1 and 2 below it; 3 and 4 below 1; 5 below 3. */
-    private static HandlerOptimizer withTree() {
-        HandlerOptimizer x = new HandlerOptimizer();
-        int[] parents = {0, 0, 1, 1, 3};
-        for (int parent : parents) {
-            x.addKind(parent);
-        }
-        return x;
-    }
-
-    private static HandlerOptimizer withFullCode() {
-        HandlerOptimizer x = new HandlerOptimizer();
-        for (int i = 0; i < 48; i++) {
-            due("number of a step", x.step(1), i);
-        }
-        return x;
     }
 
     private static void p01NewObject() {
@@ -394,13 +286,6 @@ public final class PromisesTest {
         }
         due("kind below the entry's, added later", x.addKind(5), 6);
         due("taker(2, 6)", x.taker(2, 6), 0);
-    }
-
-    private static void dueReached(HandlerOptimizer x, int... want) {
-        due("size", x.size(), want.length);
-        for (int i = 0; i < want.length; i++) {
-            due("isReached(" + i + ")", x.isReached(i), want[i] != 0);
-        }
     }
 
     private static void p18IsReached() {
@@ -811,15 +696,6 @@ public final class PromisesTest {
         due("ways", waysOf(x, 12), ways);
     }
 
-    private static long waysOf(HandlerOptimizer x, int runs) {
-        long sum = 0;
-        for (int choices = 0; choices < runs; choices++) {
-            x.run(choices, 40);
-            sum = sum * 1000003 + x.way();
-        }
-        return sum;
-    }
-
     private static void p27Sweep() {
         HandlerOptimizer x = new HandlerOptimizer();
         due("sweep", x.sweep(), 0);
@@ -1065,41 +941,40 @@ public final class PromisesTest {
     }
 
     public static void main(String[] args) {
-        p01NewObject();
-        p02AddKind();
-        p03KindCount();
-        p04IsBelow();
-        p05Common();
-        p06Step();
-        p07Jump();
-        p08Branch();
-        p09End();
-        p10Raise();
-        p11Size();
-        p12Instruction();
-        p13AddEntry();
-        p14RemoveEntry();
-        p15EntryCount();
-        p16Entry();
-        p17Taker();
-        p18IsReached();
-        p19IsUsed();
-        p20Leaving();
-        p21Share();
-        p22Parts();
-        p23Drop();
-        p24Shrink();
-        p25Join();
-        p26Improve();
-        p27Sweep();
-        p28Run();
-        p29Executed();
-        p30Taken();
-        p31Escaped();
-        p32Way();
-        p33Digest();
-        fullEverywhere();
-        System.out.println(wrong == 0 ? "all promises hold" : wrong + " answers are wrong");
-        System.exit(wrong == 0 ? 0 : 1);
+        test(1, "A new object", PromisesTest::p01NewObject);
+        test(2, "addKind", PromisesTest::p02AddKind);
+        test(3, "kindCount", PromisesTest::p03KindCount);
+        test(4, "isBelow", PromisesTest::p04IsBelow);
+        test(5, "common", PromisesTest::p05Common);
+        test(6, "step", PromisesTest::p06Step);
+        test(7, "jump", PromisesTest::p07Jump);
+        test(8, "branch", PromisesTest::p08Branch);
+        test(9, "end", PromisesTest::p09End);
+        test(10, "raise", PromisesTest::p10Raise);
+        test(11, "size", PromisesTest::p11Size);
+        test(12, "instruction", PromisesTest::p12Instruction);
+        test(13, "addEntry", PromisesTest::p13AddEntry);
+        test(14, "removeEntry", PromisesTest::p14RemoveEntry);
+        test(15, "entryCount", PromisesTest::p15EntryCount);
+        test(16, "entry", PromisesTest::p16Entry);
+        test(17, "taker", PromisesTest::p17Taker);
+        test(18, "isReached", PromisesTest::p18IsReached);
+        test(19, "isUsed", PromisesTest::p19IsUsed);
+        test(20, "leaving", PromisesTest::p20Leaving);
+        test(21, "share", PromisesTest::p21Share);
+        test(22, "parts", PromisesTest::p22Parts);
+        test(23, "drop", PromisesTest::p23Drop);
+        test(24, "shrink", PromisesTest::p24Shrink);
+        test(25, "join", PromisesTest::p25Join);
+        test(26, "improve", PromisesTest::p26Improve);
+        test(27, "sweep", PromisesTest::p27Sweep);
+        test(28, "run", PromisesTest::p28Run);
+        test(29, "executed", PromisesTest::p29Executed);
+        test(30, "taken", PromisesTest::p30Taken);
+        test(31, "escaped", PromisesTest::p31Escaped);
+        test(32, "way", PromisesTest::p32Way);
+        test(33, "digest", PromisesTest::p33Digest);
+        test(1, "all full", PromisesTest::fullEverywhere);
+        finish();
     }
 }
