@@ -130,7 +130,7 @@ public final class FaceTest {
         HandlerOptimizer x = full();
         long sum = useAll(full());
         long before = threads.getThreadAllocatedBytes(self);
-        for (int i = 0; i < 28; i++) {
+        for (int i = 0; i < 25; i++) {
             sum += useAll(x);
         }
         long made = threads.getThreadAllocatedBytes(self) - before;
