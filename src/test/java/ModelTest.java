@@ -479,7 +479,8 @@ public final class ModelTest {
         }
     }
 
-    private static final int[] BUILD = {0, 4, 4, 4, 4, 5, 6, 6, 6, 7, 8, 11, 11, 11, 11, 11, 11, 11};
+    private static final int[] BUILD = {0, 4, 4, 4, 4, 5, 6, 6, 6, 7, 8,
+        11, 11, 11, 11, 11, 11, 11};
     private static final int[] CHANGE = {12, 21, 22, 23, 23, 24, 25};
 
     private static long seed = 20261118;

@@ -38,13 +38,23 @@ public final class ReachEdgesTest extends Due {
     }
 
     private static void p18TargetIsNotThere() {
-        HandlerOptimizer x = new HandlerOptimizer();
-        x.branch(0, 47);
-        x.jump(3);
-        x.end();
-        dueReached(x, 1, 1, 0);
-        x.step(0);
-        dueReached(x, 1, 1, 0, 1);
+        HandlerOptimizer jump = new HandlerOptimizer();
+        jump.jump(2);
+        jump.end();
+        dueReached(jump, 1, 0);
+        jump.step(0);
+        dueReached(jump, 1, 0, 1);
+        HandlerOptimizer branch = new HandlerOptimizer();
+        branch.branch(0, 3);
+        branch.end();
+        branch.end();
+        dueReached(branch, 1, 1, 0);
+        branch.step(0);
+        dueReached(branch, 1, 1, 0, 1);
+        HandlerOptimizer last = new HandlerOptimizer();
+        last.branch(0, 47);
+        last.jump(47);
+        dueReached(last, 1, 1);
     }
 
     private static void p18EntrysTargetIsNotThere() {
@@ -117,6 +127,19 @@ public final class ReachEdgesTest extends Due {
         }
     }
 
+    private static void p18NoMoreBehindAChange() {
+        HandlerOptimizer x = new HandlerOptimizer();
+        x.step(1);
+        x.end();
+        x.step(0);
+        x.end();
+        x.addEntry(0, 1, 0, 2);
+        dueReached(x, 1, 1, 1, 1);
+        x.removeEntry(0);
+        due("isReached(3)", x.isReached(3), false);
+        dueReached(x, 1, 1, 0, 0);
+    }
+
     private static void p19NoSuchEntry() {
         HandlerOptimizer x = new HandlerOptimizer();
         x.step(1);
@@ -180,6 +203,16 @@ public final class ReachEdgesTest extends Due {
         x.raise(0);
         x.addEntry(0, 1, 0, 47);
         due("isUsed(0)", x.isUsed(0), true);
+    }
+
+    private static void p19NoMoreBehindAChange() {
+        HandlerOptimizer x = new HandlerOptimizer();
+        x.step(1);
+        x.addEntry(0, 1, 0, 9);
+        x.addEntry(1, 2, 0, 9);
+        due("isUsed(0)", x.isUsed(0), true);
+        x.removeEntry(0);
+        due("isUsed(0) of the one behind it", x.isUsed(0), false);
     }
 
     private static void p20NoCode() {
@@ -387,8 +420,10 @@ public final class ReachEdgesTest extends Due {
         test(18, "the target of the first that takes it", ReachEdgesTest::p18TheTakersTargetAlone);
         test(18, "a JUMP, an END and a RAISE do not go on with the next",
                 ReachEdgesTest::p18NothingBehindJumpEndAndRaise);
-        test(18, "with each instruction that is reached", ReachEdgesTest::p18FromWhatIsReachedAlone);
+        test(18, "with each instruction that is reached",
+                ReachEdgesTest::p18FromWhatIsReachedAlone);
         test(18, "all 48, in a loop", ReachEdgesTest::p18LoopsThroughAll48);
+        test(18, "no more, when the entry is removed", ReachEdgesTest::p18NoMoreBehindAChange);
         test(19, "throws if there is no such entry", ReachEdgesTest::p19NoSuchEntry);
         test(19, "not used without instructions", ReachEdgesTest::p19NoCode);
         test(19, "used by a reached instruction", ReachEdgesTest::p19NotReached);
@@ -396,6 +431,7 @@ public final class ReachEdgesTest extends Due {
         test(19, "used if it takes the error, not one ahead", ReachEdgesTest::p19TakenAhead);
         test(19, "the first and the last of 24", ReachEdgesTest::p19FirstAndLastOfAll);
         test(19, "used, though its target is not there", ReachEdgesTest::p19TargetNotThere);
+        test(19, "no more, when another has its number", ReachEdgesTest::p19NoMoreBehindAChange);
         test(20, "the empty set without instructions", ReachEdgesTest::p20NoCode);
         test(20, "the set of all 8 kinds", ReachEdgesTest::p20AllKinds);
         test(20, "the empty set if none leaves", ReachEdgesTest::p20NoneLeaves);

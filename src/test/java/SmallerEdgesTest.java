@@ -346,6 +346,18 @@ public final class SmallerEdgesTest extends Due {
         dueTable(x, row(0, 3, 1, 9), row(1, 2, 2, 9));
     }
 
+    /** Both 0 with 3 and 1 with 2 can be joined; once one is done, the other can not. */
+    private static void p25OrderOfAAheadOfThatOfB() {
+        HandlerOptimizer x = new HandlerOptimizer();
+        withSteps(x, 1, 1, 0);
+        x.addEntry(1, 2, 0, 21);
+        x.addEntry(2, 3, 0, 20);
+        x.addEntry(0, 1, 0, 20);
+        x.addEntry(0, 1, 0, 21);
+        due("join", x.join(), 1);
+        dueTable(x, row(2, 3, 0, 20), row(0, 1, 0, 20), row(0, 2, 0, 21));
+    }
+
     /** 0 with 2 can be joined only when 1 and 3 have been, which are a later pair. */
     private static void p25BeginsAnew() {
         HandlerOptimizer x = new HandlerOptimizer();
@@ -438,14 +450,15 @@ public final class SmallerEdgesTest extends Due {
         dueTable(x, row(0, 1, 1, 9));
     }
 
-    /** Joined ahead of being shrunk, the range would be shrunk in a second round. */
+    /** Joined ahead of being shrunk, the last range would hold 2, and come behind the second. */
     private static void p26ShrinkingAheadOfJoining() {
         HandlerOptimizer x = new HandlerOptimizer();
-        withSteps(x, 1, 1);
+        withSteps(x, 1, 1, 1);
         x.addEntry(0, 1, 0, 9);
-        x.addEntry(1, 40, 0, 9);
+        x.addEntry(2, 3, 0, 8);
+        x.addEntry(1, 3, 0, 9);
         due("improve", x.improve(), 1);
-        dueTable(x, row(0, 2, 0, 9));
+        dueTable(x, row(0, 2, 0, 9), row(2, 3, 0, 8));
     }
 
     /** What two entries become takes all that a third one took: that is dropped a round later. */
@@ -637,6 +650,8 @@ public final class SmallerEdgesTest extends Due {
                 SmallerEdgesTest::p25SameTargetByAnotherEntry);
         test(25, "in ascending order of b", SmallerEdgesTest::p25AscendingOrderOfB);
         test(25, "in ascending order of a first", SmallerEdgesTest::p25AscendingOrderOfA);
+        test(25, "in ascending order of a, then of b",
+                SmallerEdgesTest::p25OrderOfAAheadOfThatOfB);
         test(25, "when something was done, it begins anew", SmallerEdgesTest::p25BeginsAnew);
         test(25, "anew with the first pair, not with the next",
                 SmallerEdgesTest::p25BeginsAnewWithTheFirst);
