@@ -98,6 +98,9 @@ public final class FaceTest {
             due(inside + " is static", Modifier.isStatic(inside.getModifiers()), true);
             due(inside + " is hidden",
                     inside.getModifiers() & (Modifier.PUBLIC | Modifier.PROTECTED), 0);
+            for (Method method : inside.getDeclaredMethods()) {
+                due(method + " has a name of the face", names.contains(method.getName()), false);
+            }
         }
     }
 

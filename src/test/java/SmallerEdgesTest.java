@@ -473,6 +473,66 @@ public final class SmallerEdgesTest extends Due {
         due("improve again", x.improve(), 0);
     }
 
+    /** Kinds 1 and 2 below 0; an error of kind 0 leaves from 1, so nothing is joined across it. */
+    private static HandlerOptimizer threeRounds() {
+        HandlerOptimizer x = withSteps(withKinds(0, 0), 7, 3, 7);
+        x.addEntry(0, 1, 1, 9);
+        x.addEntry(0, 3, 2, 9);
+        x.addEntry(0, 1, 0, 9);
+        x.addEntry(1, 3, 1, 9);
+        x.addEntry(2, 3, 0, 9);
+        return x;
+    }
+
+    private static void dueRound(HandlerOptimizer x, int dropped, int shrunk, int joined) {
+        due("drop", x.drop(), dropped);
+        due("shrink", x.shrink(), shrunk);
+        due("join", x.join(), joined);
+    }
+
+    /** A join makes another entry's range too great; shrunk, that can be joined, and so on. */
+    private static void p26ThreeRounds() {
+        HandlerOptimizer x = threeRounds();
+        due("improve", x.improve(), 3);
+        dueTable(x, row(0, 1, 0, 9), row(2, 3, 0, 9), row(1, 2, 1, 9));
+        HandlerOptimizer y = threeRounds();
+        dueRound(y, 0, 0, 1);
+        dueTable(y, row(0, 1, 0, 9), row(0, 3, 2, 9), row(1, 3, 1, 9), row(2, 3, 0, 9));
+        dueRound(y, 0, 1, 1);
+        dueTable(y, row(0, 1, 0, 9), row(2, 3, 0, 9), row(1, 3, 1, 9));
+        dueRound(y, 0, 1, 0);
+        due("the same digest", y.digest(), x.digest());
+        dueRound(y, 0, 0, 0);
+    }
+
+    /**
+     * Instructions 0, 2, .. 22 throw all kinds, and all are taken; from those between them errors
+     * leave. Each of the first twelve entries but the foremost begins at one of the former and ends
+     * behind the next: it can be joined with that one's entry for kind 0 only when the one ahead of
+     * it was, a round earlier, and has taken what it took at its beginning.
+     */
+    private static void p26TwelveRounds() {
+        HandlerOptimizer x = withKinds(0, 0);
+        for (int i = 0; i < 23; i++) {
+            int otherKind = i / 2 % 2 == 0 ? 2 : 1;
+            x.step(i % 2 == 0 ? 7 : 1 + (1 << otherKind));
+        }
+        x.addEntry(0, 1, 2, 40);
+        for (int i = 0; i < 11; i++) {
+            x.addEntry(2 * i, 2 * i + 3, i % 2 == 0 ? 1 : 2, 40);
+        }
+        for (int i = 0; i < 12; i++) {
+            x.addEntry(2 * i, 2 * i + 1, 0, 40);
+        }
+        due("entryCount", x.entryCount(), 24);
+        due("improve", x.improve(), 12);
+        due("entryCount", x.entryCount(), 12);
+        for (int e = 0; e < 12; e++) {
+            dueEntry(x, e, 2 * e, 2 * e + 1, 0, 40);
+        }
+        due("improve again", x.improve(), 0);
+    }
+
     private static void p27NoCode() {
         HandlerOptimizer x = new HandlerOptimizer();
         x.addEntry(0, 1, 0, 0);
@@ -663,6 +723,8 @@ public final class SmallerEdgesTest extends Due {
         test(26, "dropping first", SmallerEdgesTest::p26DroppingFirst);
         test(26, "shrinking ahead of joining", SmallerEdgesTest::p26ShrinkingAheadOfJoining);
         test(26, "until a round changes nothing", SmallerEdgesTest::p26UntilARoundChangesNothing);
+        test(26, "three rounds, in the order of the document", SmallerEdgesTest::p26ThreeRounds);
+        test(26, "until a round changes nothing: twelve", SmallerEdgesTest::p26TwelveRounds);
         test(27, "no instructions", SmallerEdgesTest::p27NoCode);
         test(27, "all 48 are reached", SmallerEdgesTest::p27AllReached);
         test(27, "47 are removed, and there is room again", SmallerEdgesTest::p27AllButTheFirst);
